@@ -896,7 +896,7 @@ public final class GreenDesk {
         private static final int UNMEETABLE = 1_000_000;
         private static final int BEHIND_FIRST = 14;
 
-        // The least sum of greens for each row of stages.
+        // The least sum of greens for each row of stages; that of none of them isn't read.
         final int[] needs = new int[1 << MOST_STAGES];
         final int[] low = new int[MOST_STAGES];
         final int[] high = new int[MOST_STAGES];
@@ -978,8 +978,6 @@ public final class GreenDesk {
                 int need = partsUp(stream.hourly * service, stream.rate * count);
                 needs[row] = Math.max(needs[row], need);
             }
-            // Of a stream in no stage nothing can be asked.
-            needs[0] = 0;
         }
 
         static int partsUp(long whole, long part) {

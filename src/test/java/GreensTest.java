@@ -52,6 +52,16 @@ public final class GreensTest {
         Due.due("17 greens of 1", two(0, 0, 20, 20).share(0), 42);
         Due.due("17 the shortest cycle", two(0, 0, 9, 9).share(0), 20);
         Due.due("17 one more", two(0, 0, 9, 10).share(0), 21);
+
+        // 571 * 20 is one more than 19 * 601.
+        GreenDesk exact = new GreenDesk();
+        exact.junction();
+        exact.stream(0, 0, 571, 601, 4);
+        exact.stream(0, 0, 0, 601, 4);
+        exact.plan(0, 20);
+        exact.stage(0, 1, 1);
+        exact.stage(0, 2, 1);
+        Due.due("17 exact parts", exact.share(0), 21);
     }
 
     private static void shareAsksEachStream() {
@@ -174,5 +184,17 @@ public final class GreensTest {
         Due.due("18 fits all the same", desk.fit(0, 60), true);
         Due.due("18 first", desk.green(0, 0), 30);
         Due.due("18 second", desk.green(0, 1), 30);
+
+        GreenDesk narrow = new GreenDesk();
+        narrow.junction();
+        narrow.stream(0, 0, 3600, 600, 4);
+        narrow.stream(0, 0, 3600, 600, 4);
+        narrow.against(0, 0, 1, 20, 15);
+        narrow.plan(0, 60);
+        narrow.stage(0, 1, 1);
+        narrow.stage(0, 2, 1);
+        Due.due("18 five seconds for both", narrow.fit(0, 40), true);
+        Due.due("18 first", narrow.green(0, 0), 2);
+        Due.due("18 second", narrow.green(0, 1), 3);
     }
 }

@@ -21,6 +21,7 @@ public final class GuardTest {
         GreenDesk desk = crossing(100);
         Due.due("27 as it was", desk.check(0, 0, GreenDesk.NONE), GreenDesk.NONE);
         Due.due("27 i isn't asked", desk.check(0, 99, GreenDesk.NONE), GreenDesk.NONE);
+        Due.due("27 the first second", desk.check(0, 1, 0), 0);
         Due.due("27 both", desk.check(0, 1, 5), 5);
         Due.due("27 2 behind 0", desk.check(0, 1, 19), 19);
         Due.due("27 3 behind 0", desk.check(0, 1, 20), 20);

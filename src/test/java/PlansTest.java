@@ -275,8 +275,12 @@ public final class PlansTest {
         Due.due("15 told", desk.told(0, 1), 39);
         Due.due("15 lamp", desk.lamp(0, 0, 16), 1);
         Due.due("15 lamp", desk.lamp(0, 0, 17), 0);
+        Due.due("15 back to 0", desk.offset(0, 0), true);
         desk.run(1);
         Due.due("15 no clearing at second 0", desk.queue(0, 0, 11), 1);
+        desk.offset(0, 1);
+        desk.run(1);
+        Due.due("15 clearing behind one second", desk.queue(0, 0, 11), 0);
         GreenDesk begun = Towns.quiet(1);
         begun.plan(0, 30);
         Due.due("15 begun alone", begun.offset(0, 5), false);

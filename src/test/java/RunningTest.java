@@ -9,6 +9,7 @@ public final class RunningTest {
         streetsMeet();
         streetIsFull();
         streetFreesRoom();
+        longestStreet();
         clearing();
         clearingByTake();
         flashing();
@@ -108,6 +109,18 @@ public final class RunningTest {
         Due.due("22 left in 17 seconds and one", desk.queue(0, 0, 2), 8);
         desk.run(1);
         Due.due("22 and one more", desk.queue(0, 0, 2), 9);
+
+        GreenDesk nearly = new GreenDesk();
+        nearly.junction();
+        nearly.stream(0, 0, 3600, 3599, 4);
+        takeAlways(nearly, 0, 1);
+        nearly.run(1);
+        Due.due("22 not for 3,599", nearly.queue(0, 0, 2), 0);
+        nearly.offset(0, 1);
+        nearly.run(21);
+        Due.due("22 nor again from 0 on", nearly.queue(0, 0, 2), 0);
+        nearly.run(1);
+        Due.due("22 but at the next", nearly.queue(0, 0, 2), 1);
     }
 
     /** Three that leave at second 59 come at 64, to one that is always green. */
@@ -187,6 +200,34 @@ public final class RunningTest {
         down.run(4);
         Due.due("22 up: each second second", desk.queue(0, 0, 2), 2);
         Due.due("22 down: each second", down.queue(1, 0, 2), 4);
+    }
+
+    /** One leaves at each second of the first 60, there and back, and comes 60 seconds on. */
+    private static void longestStreet() {
+        GreenDesk desk = new GreenDesk();
+        for (int k = 0; k < 2; k++) {
+            desk.junction();
+            desk.stream(k, 0, 3600, 3600, 4);
+            desk.stream(k, 0, 0, 3600, 4);
+            takeAlways(desk, k, 3);
+        }
+        desk.street(0, 0, 1, 1, 60, 60);
+        desk.street(1, 0, 0, 1, 60, 60);
+        desk.run(60);
+        for (int k = 0; k < 2; k++) {
+            Due.due("22 all are on the street", desk.queue(k, 0, 6), 60);
+            Due.due("22 none came", desk.queue(k, 1, 1), 0);
+        }
+        desk.run(1);
+        for (int k = 0; k < 2; k++) {
+            Due.due("22 one came", desk.queue(k, 1, 1), 1);
+            Due.due("22 and left", desk.queue(k, 1, 2), 1);
+        }
+        Due.due("22 up: it was full", desk.queue(0, 0, 6), 59);
+        Due.due("22 down: it had room", desk.queue(1, 0, 6), 60);
+        desk.run(59);
+        Due.due("22 up: one more at the next", desk.queue(0, 0, 6), 59);
+        Due.due("22 each came", desk.queue(1, 1, 1), 60);
     }
 
     private static void clearing() {
