@@ -113,7 +113,7 @@ public final class RunningTest {
         GreenDesk nearly = new GreenDesk();
         nearly.junction();
         nearly.stream(0, 0, 3600, 3599, 4);
-        takeAlways(nearly, 0, 1);
+        Towns.takeAlways(nearly, 0, 1);
         nearly.run(1);
         Due.due("22 not for 3,599", nearly.queue(0, 0, 2), 0);
         nearly.offset(0, 1);
@@ -135,8 +135,8 @@ public final class RunningTest {
         for (int i = 0; i < 3; i++) {
             desk.street(0, i, 1, 0, 5, 60);
         }
-        takeAlways(desk, 0, 7);
-        takeAlways(desk, 1, 1);
+        Towns.takeAlways(desk, 0, 7);
+        Towns.takeAlways(desk, 1, 1);
         desk.run(59);
         Due.due("22 none came yet", desk.queue(0, 0, 1), 0);
         desk.run(1);
@@ -161,7 +161,7 @@ public final class RunningTest {
         desk.junction();
         desk.stream(1, 0, 0, 3600, 4);
         desk.street(0, 0, 1, 0, 10, 3);
-        takeAlways(desk, 0, 1);
+        Towns.takeAlways(desk, 0, 1);
         desk.run(3);
         dueQueue("22 three are on it", desk, 0, 0, new long[] {0, 3, 3, 0, 0, 0, 3});
         desk.run(7);
@@ -185,7 +185,7 @@ public final class RunningTest {
         for (int k = 0; k < 3; k++) {
             desk.junction();
             desk.stream(k, 0, k == 1 ? 0 : 3600, 3600, 4);
-            takeAlways(desk, k, 1);
+            Towns.takeAlways(desk, k, 1);
         }
         GreenDesk down = new GreenDesk();
         for (int k = 0; k < 2; k++) {
@@ -194,8 +194,8 @@ public final class RunningTest {
         }
         desk.street(0, 0, 1, 0, 1, 1);
         down.street(1, 0, 0, 0, 1, 1);
-        takeAlways(down, 0, 1);
-        takeAlways(down, 1, 1);
+        Towns.takeAlways(down, 0, 1);
+        Towns.takeAlways(down, 1, 1);
         desk.run(4);
         down.run(4);
         Due.due("22 up: each second second", desk.queue(0, 0, 2), 2);
@@ -209,7 +209,7 @@ public final class RunningTest {
             desk.junction();
             desk.stream(k, 0, 3600, 3600, 4);
             desk.stream(k, 0, 0, 3600, 4);
-            takeAlways(desk, k, 3);
+            Towns.takeAlways(desk, k, 3);
         }
         desk.street(0, 0, 1, 1, 60, 60);
         desk.street(1, 0, 0, 1, 60, 60);
@@ -320,13 +320,6 @@ public final class RunningTest {
         Due.due("23 that flash", desk.count(2), 0);
         Due.due("23 others", desk.count(3), GreenDesk.NONE);
         Due.due("23 others", desk.count(-1), GreenDesk.NONE);
-    }
-
-    private static void takeAlways(GreenDesk desk, int junction, int bits) {
-        desk.plan(junction, 20);
-        desk.stage(junction, bits, 10);
-        desk.stage(junction, bits, 10);
-        Due.due("12 always green", desk.take(junction, 0), 0);
     }
 
     private static void dueQueue(String what, GreenDesk desk, int junction, int i, long[] wanted) {
